@@ -781,7 +781,8 @@ public final class KindJudge {
     private static final class Judging {
         private static final int MANY_ROUNDS = 100000;
 
-        private final Places[] ahead = new Places[Code.INSTRUCTIONS];
+        /** One more than there can be instructions: what comes behind the last one counts, too. */
+        private final Places[] ahead = new Places[Code.INSTRUCTIONS + 1];
         private final Places caught = new Places();
         private final Step step = new Step();
         private int judgedSize;
@@ -789,7 +790,7 @@ public final class KindJudge {
         int roundsGone;
 
         Judging() {
-            for (int at = 0; at < Code.INSTRUCTIONS; at++) {
+            for (int at = 0; at <= Code.INSTRUCTIONS; at++) {
                 ahead[at] = new Places();
             }
         }
@@ -803,7 +804,7 @@ public final class KindJudge {
 
         private void forget(Code code) {
             judgedSize = code.size;
-            for (int at = 0; at < Code.INSTRUCTIONS; at++) {
+            for (int at = 0; at <= Code.INSTRUCTIONS; at++) {
                 ahead[at].depth = Places.NOTHING;
             }
         }
@@ -856,15 +857,13 @@ public final class KindJudge {
         int byJoining(Program program, Code code) {
             forget(code);
             roundsGone = 0;
-            step.now.begin(code.params);
-            if (!arrives(code, 0, step.now)) {
-                return 1;
-            }
+            ahead[0].begin(code.params);
             changed = true;
             while (changed && roundsGone < MANY_ROUNDS) {
                 changed = false;
                 roundsGone++;
-                for (int at = 0; at < code.size && at < Code.INSTRUCTIONS; at++) {
+                // behind the last instruction handsOn answers false: that number is WRONG
+                for (int at = 0; at <= code.size && at <= Code.INSTRUCTIONS; at++) {
                     if (ahead[at].depth >= 0 && !handsOn(program, code, at)) {
                         return 1 + at;
                     }
@@ -879,24 +878,24 @@ public final class KindJudge {
             if (!step.does(program, code, at)) {
                 return false;
             }
-            if (step.falls && !arrives(code, at + 1, step.now)) {
+            if (step.falls && !arrives(at + 1, step.now)) {
                 return false;
             }
-            if (step.leads >= 0 && !arrives(code, step.leads, step.now)) {
+            if (step.leads >= 0 && !arrives(step.leads, step.now)) {
                 return false;
             }
             caught.becomeCaught(ahead[at]);
             for (int i = 0; i < code.handlers; i++) {
-                if (code.covers(i, at) && !arrives(code, code.ats[i], caught)) {
+                if (code.covers(i, at) && !(code.hasInstruction(code.ats[i]) && arrives(code.ats[i], caught))) {
                     return false;
                 }
             }
             return true;
         }
 
-        /** False where no instruction is, and for two depths. */
-        private boolean arrives(Code code, int at, Places comes) {
-            if (!code.hasInstruction(at)) {
+        /** False for two depths. */
+        private boolean arrives(int at, Places comes) {
+            if (at < 0 || at > Code.INSTRUCTIONS) {
                 return false;
             }
             Places there = ahead[at];
