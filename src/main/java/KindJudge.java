@@ -1,5 +1,3 @@
-import java.util.Arrays;
-
 /**
  * Judges the code of a small stack machine by the KINDS of its places, and runs what was found right.
  * Capitals in comments are the document's terms.
@@ -280,7 +278,9 @@ public final class KindJudge {
         int depth = NOTHING;
 
         void clear(int newDepth) {
-            Arrays.fill(kinds, Kinds.TOP);
+            for (int place = 0; place < LOCALS + STACK; place++) {
+                kinds[place] = Kinds.TOP;
+            }
             depth = newDepth;
         }
 
@@ -310,7 +310,7 @@ public final class KindJudge {
             return before;
         }
 
-        /** What a HANDLER gets from an instruction to which this comes. */
+        /** Becomes what a HANDLER gets from an instruction to which that comes. */
         void becomeCaught(Places comes) {
             copyFrom(comes);
             depth = 0;
@@ -511,7 +511,7 @@ public final class KindJudge {
 
         /** Where a FAILURE leads, or -1. */
         int handlerFor(int at, int failure) {
-            for (int i = 0; i < handlers; i++) {
+            for (int i = 0; i < handlers && i < HANDLERS; i++) {
                 if (covers(i, at) && (whats[i] == failure || whats[i] == 0)) {
                     return ats[i];
                 }
@@ -522,7 +522,7 @@ public final class KindJudge {
         /** A bit for each METHOD that an instruction calls, come to or not. */
         int called() {
             int bits = 0;
-            for (int at = 0; at < size; at++) {
+            for (int at = 0; at < size && at < INSTRUCTIONS; at++) {
                 if (ops[at] == Op.CALL && args[at] >= 0 && args[at] < number) {
                     bits |= 1 << (int) args[at];
                 }
@@ -937,7 +937,9 @@ public final class KindJudge {
             kinds[made] = kind;
             lengths[made] = length;
             fields[made] = 0;
-            Arrays.fill(items, made * ITEMS, made * ITEMS + length, 0);
+            for (int index = 0; index < ITEMS; index++) {
+                items[made * ITEMS + index] = 0;
+            }
             return made;
         }
 
