@@ -781,8 +781,7 @@ public final class KindJudge {
     private static final class Judging {
         private static final int MANY_ROUNDS = 100000;
 
-        /** One more than there can be instructions: what comes behind the last one counts, too. */
-        private final Places[] ahead = new Places[Code.INSTRUCTIONS + 1];
+        private final Places[] ahead = new Places[Code.INSTRUCTIONS];
         private final Places caught = new Places();
         private final Step step = new Step();
         private int judgedSize;
@@ -790,7 +789,7 @@ public final class KindJudge {
         int roundsGone;
 
         Judging() {
-            for (int at = 0; at <= Code.INSTRUCTIONS; at++) {
+            for (int at = 0; at < Code.INSTRUCTIONS; at++) {
                 ahead[at] = new Places();
             }
         }
@@ -804,7 +803,7 @@ public final class KindJudge {
 
         private void forget(Code code) {
             judgedSize = code.size;
-            for (int at = 0; at <= Code.INSTRUCTIONS; at++) {
+            for (int at = 0; at < Code.INSTRUCTIONS; at++) {
                 ahead[at].depth = Places.NOTHING;
             }
         }
@@ -857,13 +856,16 @@ public final class KindJudge {
         int byJoining(Program program, Code code) {
             forget(code);
             roundsGone = 0;
-            ahead[0].begin(code.params);
+            step.now.begin(code.params);
+            // without instructions the first one is not there: WRONG before any ROUND
+            if (!arrives(code, 0, step.now)) {
+                return 1;
+            }
             changed = true;
             while (changed && roundsGone < MANY_ROUNDS) {
                 changed = false;
                 roundsGone++;
-                // behind the last instruction handsOn answers false: that number is WRONG
-                for (int at = 0; at <= code.size && at <= Code.INSTRUCTIONS; at++) {
+                for (int at = 0; at < code.size && at < Code.INSTRUCTIONS; at++) {
                     if (ahead[at].depth >= 0 && !handsOn(program, code, at)) {
                         return 1 + at;
                     }
@@ -878,24 +880,24 @@ public final class KindJudge {
             if (!step.does(program, code, at)) {
                 return false;
             }
-            if (step.falls && !arrives(at + 1, step.now)) {
+            if (step.falls && !arrives(code, at + 1, step.now)) {
                 return false;
             }
-            if (step.leads >= 0 && !arrives(step.leads, step.now)) {
+            if (step.leads >= 0 && !arrives(code, step.leads, step.now)) {
                 return false;
             }
             caught.becomeCaught(ahead[at]);
             for (int i = 0; i < code.handlers; i++) {
-                if (code.covers(i, at) && !(code.hasInstruction(code.ats[i]) && arrives(code.ats[i], caught))) {
+                if (code.covers(i, at) && !arrives(code, code.ats[i], caught)) {
                     return false;
                 }
             }
             return true;
         }
 
-        /** False for two depths. */
-        private boolean arrives(int at, Places comes) {
-            if (at < 0 || at > Code.INSTRUCTIONS) {
+        /** False if that one is not there, and for two depths: the one that leaves it is WRONG. */
+        private boolean arrives(Code code, int at, Places comes) {
+            if (!code.hasInstruction(at) || at >= Code.INSTRUCTIONS) {
                 return false;
             }
             Places there = ahead[at];

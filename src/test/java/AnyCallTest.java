@@ -92,7 +92,7 @@ public final class AnyCallTest {
                 return got;
             case 8:
                 got = x.join(m);
-                within("join", got, 0, 41, BAD);
+                within("join", got, 0, 40, BAD);
                 within("rounds", x.rounds(), 0, 40 * 17 * 8);
                 return got;
             case 9:

@@ -88,7 +88,7 @@ final class Model {
     }
 
     final List<Method> methods;
-    State[] ahead = new State[41];
+    State[] ahead = new State[40];
     int rounds;
     private int leads;
 
@@ -338,7 +338,7 @@ final class Model {
 
     int judge(int number) {
         Method m = methods.get(number);
-        ahead = new State[41];
+        ahead = new State[40];
         State now = start(m);
         for (int i = 0; i < m.code.size(); i++) {
             State f = m.frames[i];
@@ -364,7 +364,10 @@ final class Model {
 
     private boolean changed;
 
-    private boolean comes(int to, State s) {
+    private boolean comes(Method m, int to, State s) {
+        if (to >= m.code.size()) {
+            return false;
+        }
         if (ahead[to] == null) {
             ahead[to] = s.copy();
             changed = true;
@@ -383,9 +386,11 @@ final class Model {
 
     int join(int number) {
         Method m = methods.get(number);
-        ahead = new State[41];
+        ahead = new State[40];
         rounds = 0;
-        comes(0, start(m));
+        if (!comes(m, 0, start(m))) {
+            return 1;
+        }
         do {
             changed = false;
             rounds++;
@@ -393,9 +398,6 @@ final class Model {
                 if (ahead[i] != null && !leaves(m, number, i)) {
                     return i + 1;
                 }
-            }
-            if (ahead[m.code.size()] != null) {
-                return m.code.size() + 1;
             }
         } while (changed);
         return 0;
@@ -408,11 +410,11 @@ final class Model {
             return false;
         }
         int to = leads;
-        boolean fine = !falls(m.code.get(i).op) || comes(i + 1, out);
-        fine = fine && (to < 0 || comes(to, out));
+        boolean fine = !falls(m.code.get(i).op) || comes(m, i + 1, out);
+        fine = fine && (to < 0 || comes(m, to, out));
         for (Handler h : m.handlers) {
             boolean covers = h.from <= i && i < h.to;
-            fine = fine && (!covers || h.at < m.code.size() && comes(h.at, caught(in)));
+            fine = fine && (!covers || comes(m, h.at, caught(in)));
         }
         return fine;
     }

@@ -4,11 +4,11 @@ import java.util.List;
 
 /** Made-up METHODS, judged, joined and run by the class and by the model: every answer must be the same. */
 public final class ModelTest {
-    private static final int PROGRAMS = 6000;
+    private static final int PROGRAMS = 8000;
     private static long seed = 20261116;
     private static final int[] outcomes = new int[11];
     private static final int[] opsOfRight = new int[35];
-    private static int rightByJoin, rightByFrames, compared;
+    private static int rightByJoin, rightByFrames, wrongAtTheLast, compared;
 
     public static void main(String[] args) {
         for (int i = 0; i < PROGRAMS; i++) {
@@ -22,6 +22,7 @@ public final class ModelTest {
         }
         Check.due("right by join: " + rightByJoin, rightByJoin > 1000);
         Check.due("right by frames: " + rightByFrames, rightByFrames > 1000);
+        Check.due("WRONG at the last one by join: " + wrongAtTheLast, wrongAtTheLast > 200);
         System.out.println(compared + " compared; runs that ended with 0 .. 10: " + Arrays.toString(outcomes));
         Check.end();
     }
@@ -40,11 +41,22 @@ public final class ModelTest {
             for (int tries = random(12); tries > 0; tries--) {
                 mutate(methods, i);
             }
+            if (random(8) == 0) {
+                cutShort(methods.get(i));
+            }
             if (random(3) > 0) {
                 frames(methods, i);
             }
         }
         compare(methods);
+    }
+
+    /** What is left out at the end makes the last one leave something behind it. */
+    private static void cutShort(Model.Method m) {
+        int left = random(4) == 0 ? random(3) : m.code.size() - 1 - random(3);
+        while (m.code.size() > Math.max(0, left)) {
+            m.code.remove(m.code.size() - 1);
+        }
     }
 
     private static long someA(int op, int size, int number) {
@@ -279,6 +291,7 @@ public final class ModelTest {
             }
             int joined = model.join(i);
             same(methods, "join", x.join(i), joined);
+            wrongAtTheLast += joined > 0 && joined >= methods.get(i).code.size() ? 1 : 0;
             same(methods, "rounds", x.rounds(), model.rounds);
             places(methods, x, model, i);
             right[i] = joined == 0;

@@ -369,8 +369,6 @@ public final class PromisesTest {
         part = "8 wrong";
         joins(2, NULL, 0, GOTO, 0);
         joins(2, INT, 1, IFZERO, 1);
-        joins(3, NULL, 0, DROP, 0);
-        joins(3, INT, 0, IFZERO, 0);
         behindTheLast();
         KindJudge x = one(1, LOAD, 0, INTS, 0, LENGTH, 0, RETURN, 0);
         x.handler(0, 2, 3, 4, 0);
@@ -399,12 +397,32 @@ public final class PromisesTest {
         for (int i = 0; i < 40; i++) {
             x.op(0, i % 2 == 0 ? NULL : DROP, 0);
         }
-        due("behind the fortieth", x.join(0), 41);
+        due("behind the fortieth: that one is WRONG", x.join(0), 40);
         due("no such instruction", x.kind(40, 0), NONE);
         due("the last", x.kind(39, 8), 4);
+        due("in the first ROUND", x.rounds(), 1);
+        due("not found right", x.count(3, 0), 0);
+        due("by FRAMES the number behind it", x.judge(0), 41);
+        joins(1, INT, 0);
+        joins(2, NULL, 0, DROP, 0);
+        joins(2, INT, 0, IFZERO, 0);
+        joins(3, INT, 0, IFZERO, 0, NULL, 0);
+        joins(0, GOTO, 0, NULL, 0);
         x = one(0, NULL, 0, DROP, 0);
         x.handler(0, 1, 2, 5, 0);
-        due("the HANDLER's is not there: the last one is WRONG first", x.join(0), 2);
+        due("as where the HANDLER's is not there", x.join(0), 2);
+        x = one(0, NULL, 0, GOTO, 4, INT, 0, RETURN, 0, DROP, 0);
+        x.handler(0, 4, 5, 3, 0);
+        due("the last one", x.join(0), 5);
+        due("met before its HANDLERS", x.kind(3, 8), NONE);
+        x = one(0, INT, 0, GOTO, 4, INT, 0, RETURN, 0, IFZERO, 2);
+        due("the last one", x.join(0), 5);
+        due("met before where it leads", x.kind(2, 0), NONE);
+        x = one(0, GOTO, 3, NULL, 0, GOTO, 4, GOTO, 1, DROP, 0);
+        due("the last one", x.join(0), 5);
+        due("in the second ROUND", x.rounds(), 2);
+        x.op(0, GOTO, 5);
+        due("something is behind it", x.join(0), 0);
         x = one(0, INT, 7, RETURN, 0);
         for (int i = 2; i < 40; i++) {
             x.op(0, CALL, 0);
@@ -754,6 +772,13 @@ public final class PromisesTest {
         m = add(x, 1, LOAD, 0, IFZERO, 4, LOAD, 0, RETURN, 0, NULL, 0, STORE, 0, GOTO, 2);
         due("NULL comes to 2", x.join(m), 3);
         due("WRONG in the second", x.rounds(), 2);
+        x.method(4);
+        due("without instructions", x.join(m + 1), 1);
+        due("WRONG before any ROUND", x.rounds(), 0);
+        due("nothing came", x.kind(0, 0), NONE);
+        x.op(m + 1, GOTO, 0);
+        due("with one", x.join(m + 1), 0);
+        due("one ROUND", x.rounds(), 1);
     }
 
     private static void promise11() {
