@@ -1,13 +1,5 @@
 /** Each promise of the document: ordinary inputs, the edges that it names, wrong inputs. */
-public final class PromisesTest {
-    private static final int BAD = -1, FULL = -3, NONE = -99999999;
-    private static final int INT = 0, LONG = 1, NULL = 2, LOAD = 3, STORE = 4, LOADL = 5, STOREL = 6, REL = 7,
-        RELL = 8, TOLONG = 9, TOINT = 10, LESS = 11, NEW = 12, MADE = 13, INTS = 14, ROW = 15, LENGTH = 16, GET = 17,
-        PUT = 18, TAKE = 19, GIVE = 20, CAST = 21, IS = 22, FIELD = 23, SETFIELD = 24, WORTH = 25, DUP = 26, DROP = 27,
-        SWAP = 28, GOTO = 29, IFZERO = 30, IFNULL = 31, RETURN = 32, CALL = 33, FAIL = 34;
-
-    private static String part = "";
-
+public final class PromisesTest extends Built {
     public static void main(String[] args) {
         promise1();
         promise2();
@@ -41,47 +33,6 @@ public final class PromisesTest {
         promise14();
         promise15();
         Check.end();
-    }
-
-    private static void due(String call, long got, long want) {
-        Check.due(part + ": " + call, got, want);
-    }
-
-    /** Adds a METHOD of ops and their a in turn. */
-    private static int add(KindJudge x, int params, long... opsAndAs) {
-        int m = x.method(params);
-        for (int i = 0; i + 1 < opsAndAs.length; i += 2) {
-            x.op(m, (int) opsAndAs[i], opsAndAs[i + 1]);
-        }
-        return m;
-    }
-
-    private static KindJudge one(int params, long... opsAndAs) {
-        KindJudge x = new KindJudge();
-        add(x, params, opsAndAs);
-        return x;
-    }
-
-    /** What join() of one METHOD alone answers. */
-    private static void joins(long want, long... opsAndAs) {
-        KindJudge x = one(1, opsAndAs);
-        StringBuilder text = new StringBuilder("join of");
-        for (long o : opsAndAs) {
-            text.append(' ').append(o);
-        }
-        due(text.toString(), x.join(0), want);
-    }
-
-    /** What run() and answer() of one METHOD alone answer. */
-    private static void runs(int how, int answer, int param, long... opsAndAs) {
-        KindJudge x = one(1, opsAndAs);
-        StringBuilder text = new StringBuilder("run of");
-        for (long o : opsAndAs) {
-            text.append(' ').append(o);
-        }
-        due("join, " + text, x.join(0), 0);
-        due(text.toString(), x.run(0, param, 0, 0, 0), how);
-        due("answer, " + text, x.answer(), answer);
     }
 
     private static void promise1() {
@@ -792,6 +743,7 @@ public final class PromisesTest {
         }
         int[] all = {0, 1, 2, 3, 4, 5, 10, 11, 12, 13, 14, 15, 16, 17, 21, 22, 23, 24, 25, 100, 139};
         for (int a : all) {
+            x = new KindJudge();
             for (int b : all) {
                 due("GOES " + a + " " + b, x.kinds(a, b, true), Model.goes(a, b) ? 1 : 0);
                 due("JOIN " + a + " " + b, x.kinds(a, b, false), Model.join(a, b));
